@@ -9,7 +9,7 @@ public final class PulsedAxes {
     private static final int FIRST_FAULT = -1000020;
     private static final int FINE = 0;
 
-    private static final int LINE = 0, FAST = 1, EVEN = 2, LEFT = 3, RIGHT = 4;
+    private static final int FAST = 1, EVEN = 2, LEFT = 3, RIGHT = 4;
     private static final int KINDS = 5;
     private static final int AXES = 3;
     private static final int LONGEST_WAY = 15;
@@ -27,6 +27,8 @@ public final class PulsedAxes {
     private static final int MOST_FILMED = 12;
 
     private static final int LONGEST_TAPE = 140;
+    /** Of the kinds in a plan, each at its kind's number. */
+    private static final String LETTERS = "lfecr";
     private static final int SHEETS = 4;
     private static final int LANES = 4;
     private static final int LONGEST_SHEET = 24;
@@ -112,11 +114,9 @@ public final class PulsedAxes {
     // ---- what is done
 
     public int push(int kind, int a, int b, int c) {
-        if (!fits(kind, a, b, c)) {
-            return BAD;
-        }
-        if (state.waiting >= MOST_WAITING) {
-            return FULL;
+        int fault = newcomerRefusal(kind, a, b, c);
+        if (fault != FINE) {
+            return fault;
         }
         past.keep(state);
         state.addLast(kind, a, b, c);
@@ -124,11 +124,9 @@ public final class PulsedAxes {
     }
 
     public int jump(int kind, int a, int b, int c) {
-        if (!fits(kind, a, b, c)) {
-            return BAD;
-        }
-        if (state.waiting >= MOST_WAITING) {
-            return FULL;
+        int fault = newcomerRefusal(kind, a, b, c);
+        if (fault != FINE) {
+            return fault;
         }
         past.keep(state);
         state.addFirst(kind, a, b, c);
@@ -459,6 +457,13 @@ public final class PulsedAxes {
         }
         return isWithin(a, LONGEST_WAY) && isWithin(b, LONGEST_WAY) && isWithin(c, LONGEST_WAY)
                 && (a != 0 || b != 0 || c != 0);
+    }
+
+    private int newcomerRefusal(int kind, int a, int b, int c) {
+        if (!fits(kind, a, b, c)) {
+            return BAD;
+        }
+        return state.waiting < MOST_WAITING ? FINE : FULL;
     }
 
     private static int sign(int number) {
@@ -985,8 +990,8 @@ public final class PulsedAxes {
             return false;
         }
 
-        private boolean readPiece(int place) {
-            int kind = atEnd() ? -1 : kindOf(tape[at]);
+        private boolean readPiece(int slot) {
+            int kind = atEnd() ? -1 : LETTERS.indexOf(tape[at]);
             if (kind < 0) {
                 return false;
             }
@@ -1004,7 +1009,7 @@ public final class PulsedAxes {
                 at = start;
                 return false;
             }
-            pieces[place].tell(kind, numbers[0], numbers[1], numbers[2]);
+            pieces[slot].tell(kind, numbers[0], numbers[1], numbers[2]);
             return true;
         }
 
@@ -1043,23 +1048,6 @@ public final class PulsedAxes {
                 at++;
             }
             return at >= length;
-        }
-
-        private static int kindOf(char letter) {
-            switch (letter) {
-                case 'l':
-                    return LINE;
-                case 'f':
-                    return FAST;
-                case 'e':
-                    return EVEN;
-                case 'c':
-                    return LEFT;
-                case 'r':
-                    return RIGHT;
-                default:
-                    return -1;
-            }
         }
     }
 
