@@ -40,7 +40,7 @@ public final class ModelTests {
         for (int k = 0; k < CALLS; k++) {
             Call call = caller.draw();
             long want = model.answer(call);
-            long got = ask(x, call);
+            long got = call.on(x);
             told.add(call + " -> " + got);
             if (want < -1000000) {
                 refused[0]++;
@@ -53,52 +53,6 @@ public final class ModelTests {
             }
         }
         return 0;
-    }
-
-    private record Call(String name, long[] v) {
-        int at(int k) {
-            return (int) v[k];
-        }
-
-        @Override
-        public String toString() {
-            return name + Arrays.toString(v);
-        }
-    }
-
-    private static long ask(PulsedAxes x, Call c) {
-        switch (c.name) {
-            case "place": return x.place(c.at(0));
-            case "piece": return x.piece(c.at(0), c.at(1));
-            case "type": return x.type(c.at(0));
-            case "plan": return x.plan();
-            case "count": return x.count(c.at(0));
-            case "push": return x.push(c.at(0), c.at(1), c.at(2), c.at(3));
-            case "jump": return x.jump(c.at(0), c.at(1), c.at(2), c.at(3));
-            case "purge": return x.purge(c.at(0));
-            case "stop": return x.stop();
-            case "hold": return x.hold();
-            case "step": return x.step(c.at(0));
-            case "drift": return x.drift(c.at(0));
-            case "undo": return x.undo();
-            case "seed": return x.seed(c.at(0));
-            case "where": return x.where(c.at(0), c.at(1));
-            case "pulses": return x.pulses(c.at(0), c.at(1));
-            case "next": return x.next(c.at(0), c.at(1));
-            case "meets": return x.meets(c.at(0), c.at(1), c.at(2));
-            case "reach": return x.reach(c.at(0), c.at(1));
-            case "off": return x.off(c.at(0));
-            case "lost": return x.lost(c.at(0), c.at(1), c.at(2), c.at(3), c.at(4), c.at(5));
-            case "image": return x.image();
-            case "restore": return x.restore();
-            case "came": return x.came(c.at(0), c.at(1), c.at(2), c.at(3));
-            case "film": return x.film(c.at(0), c.at(1), c.at(2), c.at(3));
-            case "sheet": return x.sheet(c.at(0), c.at(1), c.at(2));
-            case "drop": return x.drop(c.at(0));
-            case "item": return x.item(c.at(0), c.at(1), c.at(2), c.v[3]);
-            case "copy": return x.copy(c.at(0), c.at(1), c.at(2), c.at(3), c.at(4));
-            default: throw new IllegalArgumentException(c.name);
-        }
     }
 
     /** Draws calls that mostly mean something, and now and then numbers that are just over an edge. */
@@ -438,7 +392,7 @@ public final class ModelTests {
         // ---- the calls
 
         long answer(Call c) {
-            switch (c.name) {
+            switch (c.name()) {
                 case "place": return axis(c.at(0)) ? state.places[c.at(0)] : BAD;
                 case "piece": return pieceOf(c.at(0), c.at(1));
                 case "type": return typed(c.at(0));
@@ -458,7 +412,7 @@ public final class ModelTests {
         }
 
         private long answerLooked(Call c) {
-            switch (c.name) {
+            switch (c.name()) {
                 case "where": return whereIs(c.at(0), c.at(1));
                 case "pulses": return pulsed(c.at(0), c.at(1));
                 case "next": return nextOf(c.at(0), c.at(1));
@@ -475,9 +429,9 @@ public final class ModelTests {
                 case "film": return filmed(c.at(0), c.at(1), c.at(2), c.at(3));
                 case "sheet": return sheeted(c.at(0), c.at(1), c.at(2));
                 case "drop": return dropped(c.at(0));
-                case "item": return set(c.at(0), c.at(1), c.at(2), c.v[3]);
+                case "item": return set(c.at(0), c.at(1), c.at(2), c.numbers()[3]);
                 case "copy": return copied(c);
-                default: throw new IllegalArgumentException(c.name);
+                default: throw new IllegalArgumentException(c.name());
             }
         }
 
