@@ -563,6 +563,8 @@ public final class PulsedAxes {
         private int b;
         private int c;
         private int done;
+        /** All but arcs: how many turns it takes. */
+        private int turns;
         /** EVEN alone: the turn under way, and the first axis that is still to be looked at in it. */
         private int turn;
         private int axis;
@@ -576,6 +578,7 @@ public final class PulsedAxes {
             b = newB;
             c = newC;
             done = 0;
+            turns = Math.max(Math.abs(newA), Math.max(Math.abs(newB), Math.abs(newC)));
             turn = 1;
             axis = 0;
             u = -newA;
@@ -588,6 +591,7 @@ public final class PulsedAxes {
             b = other.b;
             c = other.c;
             done = other.done;
+            turns = other.turns;
             turn = other.turn;
             axis = other.axis;
             u = other.u;
@@ -605,15 +609,11 @@ public final class PulsedAxes {
             return along == 1 ? b : c;
         }
 
-        private int turns() {
-            return Math.max(Math.abs(a), Math.max(Math.abs(b), Math.abs(c)));
-        }
-
         private int total() {
             if (isArc()) {
                 return c;
             }
-            return kind == EVEN ? Math.abs(a) + Math.abs(b) + Math.abs(c) : turns();
+            return kind == EVEN ? Math.abs(a) + Math.abs(b) + Math.abs(c) : turns;
         }
 
         private int remaining() {
@@ -623,7 +623,7 @@ public final class PulsedAxes {
         /** How far an axis has gone behind the k-th turn; no arc. */
         private int gone(int k, int along) {
             int whole = Math.abs(way(along));
-            int far = kind == FAST ? Math.min(k, whole) : nearest(k * whole, turns());
+            int far = kind == FAST ? Math.min(k, whole) : nearest(k * whole, turns);
             return way(along) < 0 ? -far : far;
         }
 
@@ -653,7 +653,7 @@ public final class PulsedAxes {
         }
 
         private void advanceEven(int[] move) {
-            // some axis moves by every turn: what is left of one turn and a whole one are enough
+            // the longest axis moves by every turn, so it is met before each has been looked at twice
             for (int looks = 0; looks < 2 * AXES; looks++) {
                 if (axis >= AXES) {
                     axis = 0;
@@ -697,10 +697,9 @@ public final class PulsedAxes {
             if (isArc()) {
                 return;
             }
-            int all = turns();
-            for (int k = 1; k <= all; k++) {
+            for (int k = 1; k <= turns; k++) {
                 for (int along = 0; along < AXES; along++) {
-                    most.raise(Math.abs(gone(k, along) * all - k * way(along)), all);
+                    most.raise(Math.abs(gone(k, along) * turns - k * way(along)), turns);
                 }
             }
         }

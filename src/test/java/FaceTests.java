@@ -26,6 +26,9 @@ public final class FaceTests {
         "throw", "throws", "try", "catch", "finally", "synchronized", "assert", "package", "volatile", "native",
         "protected", "Object", "\\w*Exception", "\\w*Random", "\\w*Thread", "\\w*Exact"};
 
+    private static final String LIBRARY =
+            "(Math|Integer|Long)\\.\\w+|System\\.arraycopy|Arrays\\.(copyOf|copyOfRange|fill)|List\\.of";
+
     private static int wrong = 0;
 
     public static void main(String[] args) throws IOException, IllegalAccessException {
@@ -117,6 +120,11 @@ public final class FaceTests {
         while (imports.find()) {
             due(imports.group(1) + " may be used",
                     imports.group(1).matches("java\\.util\\.(Arrays|ArrayList|List|Iterator)"), true);
+        }
+        Matcher libraries = Pattern.compile("\\b([A-Z]\\w*[a-z]\\w*)\\s*\\.\\s*(\\w+)\\s*\\(").matcher(code);
+        while (libraries.find()) {
+            String call = libraries.group(1) + "." + libraries.group(2);
+            due(call + " may be called", call.matches(LIBRARY), true);
         }
         methodLengths(code);
     }

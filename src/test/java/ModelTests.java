@@ -15,29 +15,34 @@ import java.util.Random;
 public final class ModelTests {
     private static final int RUNS = 6000;
     private static final int CALLS = 120;
+    /** All that an object is used for: so long is each tenth run. */
+    private static final int MOST_CALLS = 512;
     private static final int BAD = -1000001, NOT = -1000002, FULL = -1000003, NONE = -1000004;
     private static final int NULL = -1000011, CAST = -1000012, INDEX = -1000013, SIZE = -1000014;
 
     public static void main(String[] args) {
         int wrong = 0;
         int[] refused = new int[1];
+        int[] made = new int[1];
         for (int run = 1; run <= RUNS && wrong < 5; run++) {
-            wrong += oneRun(run, refused);
+            wrong += oneRun(run, made, refused);
         }
-        System.out.println(RUNS * CALLS + " random calls (" + refused[0] + " refused), " + wrong + " runs wrong");
+        System.out.println(made[0] + " random calls (" + refused[0] + " refused), " + wrong + " runs wrong");
         if (wrong != 0) {
             System.exit(1);
         }
     }
 
     /** A run ends with its first wrong answer, which is printed with all calls up to it. */
-    private static int oneRun(int run, int[] refused) {
+    private static int oneRun(int run, int[] made, int[] refused) {
         Random random = new Random(run);
         PulsedAxes x = new PulsedAxes();
         Model model = new Model();
         Caller caller = new Caller(random, model);
         List<String> told = new ArrayList<>();
-        for (int k = 0; k < CALLS; k++) {
+        int calls = run % 10 == 0 ? MOST_CALLS : CALLS;
+        for (int k = 0; k < calls; k++) {
+            made[0]++;
             Call call = caller.draw();
             long want = model.answer(call);
             long got = call.on(x);

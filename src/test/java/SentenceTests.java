@@ -60,11 +60,11 @@ public final class SentenceTests {
 
     private static Stream<String> run(Test test, List<Integer> answers) {
         Script script = new Script();
-        List<String> faults = new ArrayList<>(script.faults());
+        List<String> faults = new ArrayList<>();
         try {
             script.run(test.lines);
         } catch (RuntimeException thrown) {
-            faults.add("threw " + thrown + " at " + thrown.getStackTrace()[0]);
+            faults.add("threw " + thrown);
         }
         faults.addAll(script.faults());
         synchronized (answers) {
@@ -107,7 +107,8 @@ public final class SentenceTests {
         sections.put("1", between(document, "==== 1 ", "==== 2 "));
         sections.put("2", between(document, "==== 2 ", "==== 3 "));
         sections.put("3", between(document, "==== 3 ", "Ahead of the calls"));
-        sections.put("The interface", between(document, "Ahead of the calls", "## Promise 1:").replace("Ahead of the calls", ""));
+        String heads = between(document, "Ahead of the calls", "## Promise 1:");
+        sections.put("The interface", heads.replace("Ahead of the calls", ""));
         String promises = document.substring(document.indexOf("## Promise 1:"));
         for (String promise : promises.split("## Not promised")[0].split("## (?=Promise)")) {
             int end = promise.indexOf('\n');
