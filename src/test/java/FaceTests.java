@@ -11,17 +11,10 @@ import java.util.TreeSet;
 import java.util.regex.Matcher;
 import java.util.regex.Pattern;
 
-/** The document's face, no more and no less, and those rules of LANGUAGE.md that a scan can see. */
+/** The face as the document writes it, no more and no less, and those rules of LANGUAGE.md that a scan can see. */
 public final class FaceTests {
-    private static final String[] METHODS = {
-        "place(int)", "piece(int,int)", "type(int)", "plan()", "count(int)", "push(int,int,int,int)",
-        "jump(int,int,int,int)", "purge(int)", "stop()", "hold()", "step(int)", "drift(int)", "undo()", "seed(int)",
-        "where(int,int)", "pulses(int,int)", "next(int,int)", "meets(int,int,int)", "reach(int,int)", "off(int)",
-        "lost(int,int,int,int,int,int)", "image()", "restore()", "came(int,int,int,int)", "film(int,int,int,int)",
-        "sheet(int,int,int)", "drop(int)", "item(int,int,int,long)", "copy(int,int,int,int,int)"};
-    private static final String[] CONSTANTS = {
-        "BAD=-1000001", "NOT=-1000002", "FULL=-1000003", "NONE=-1000004", "NULL=-1000011", "CAST=-1000012",
-        "INDEX=-1000013", "SIZE=-1000014"};
+    private static final Path DOCUMENT = Path.of("../shared/DOC.md");
+    private static final int METHODS = 29, CONSTANTS = 8;
     private static final String[] FORBIDDEN = {
         "throw", "throws", "try", "catch", "finally", "synchronized", "assert", "package", "volatile", "native",
         "protected", "Object", "\\w*Exception", "\\w*Random", "\\w*Thread", "\\w*Exact"};
@@ -32,9 +25,10 @@ public final class FaceTests {
     private static int wrong = 0;
 
     public static void main(String[] args) throws IOException, IllegalAccessException {
+        String face = face(Files.readString(DOCUMENT));
         constructors();
-        constants();
-        methods();
+        constants(toldConstants(face));
+        methods(toldMethods(face));
         nestedClasses();
         source(Files.readString(Path.of("src/main/java/PulsedAxes.java")));
         System.out.println(wrong == 0 ? "the face and the language are as told" : wrong + " things are not as told");
@@ -50,6 +44,35 @@ public final class FaceTests {
         }
     }
 
+    // ---- what the document tells
+
+    private static String face(String document) {
+        String behind = document.substring(document.indexOf("public final class PulsedAxes {"));
+        return behind.substring(0, behind.indexOf("```"));
+    }
+
+    private static Set<String> toldConstants(String face) {
+        Set<String> told = new TreeSet<>();
+        Matcher constants = Pattern.compile("([A-Z]+) = (-\\d+)").matcher(face);
+        while (constants.find()) {
+            told.add(constants.group(1) + "=" + constants.group(2));
+        }
+        due("constants in the document", told.size(), CONSTANTS);
+        return told;
+    }
+
+    private static Set<String> toldMethods(String face) {
+        Set<String> told = new TreeSet<>();
+        Matcher methods = Pattern.compile("public (int \\w+)\\(([^)]*)\\);").matcher(face);
+        while (methods.find()) {
+            told.add(methods.group(1) + "(" + methods.group(2).replaceAll("(int|long) \\w+", "$1").replace(" ", "") + ")");
+        }
+        due("methods in the document", told.size(), METHODS);
+        return told;
+    }
+
+    // ---- what the class has
+
     private static void constructors() {
         Constructor<?>[] all = PulsedAxes.class.getDeclaredConstructors();
         due("constructors", all.length, 1);
@@ -58,21 +81,22 @@ public final class FaceTests {
         due("the class is public and final", PulsedAxes.class.getModifiers(), Modifier.PUBLIC | Modifier.FINAL);
     }
 
-    private static void constants() throws IllegalAccessException {
+    private static void constants(Set<String> told) throws IllegalAccessException {
         Set<String> found = new TreeSet<>();
         for (Field field : PulsedAxes.class.getDeclaredFields()) {
             if (!Modifier.isPrivate(field.getModifiers())) {
                 due(field.getName() + " is a constant", field.getModifiers(),
                         Modifier.PUBLIC | Modifier.STATIC | Modifier.FINAL);
+                due(field.getName() + " is of type", field.getType(), int.class);
                 found.add(field.getName() + "=" + field.get(null));
             } else if (Modifier.isStatic(field.getModifiers())) {
                 due(field.getName() + " is final", Modifier.isFinal(field.getModifiers()), true);
             }
         }
-        due("constants", found, new TreeSet<>(Arrays.asList(CONSTANTS)));
+        due("constants", found, told);
     }
 
-    private static void methods() {
+    private static void methods(Set<String> told) {
         Set<String> open = new TreeSet<>();
         Set<String> openNames = new TreeSet<>();
         Set<String> hiddenNames = new TreeSet<>();
@@ -83,12 +107,11 @@ public final class FaceTests {
                 continue;
             }
             due(method.getName() + " is public", method.getModifiers(), Modifier.PUBLIC);
-            due(method.getName() + " answers", method.getReturnType(), int.class);
             openNames.add(method.getName());
-            open.add(method.getName() + Arrays.toString(method.getParameterTypes())
+            open.add(method.getReturnType() + " " + method.getName() + Arrays.toString(method.getParameterTypes())
                     .replace("[", "(").replace("]", ")").replace(" ", ""));
         }
-        due("methods", open, new TreeSet<>(Arrays.asList(METHODS)));
+        due("methods", open, told);
         for (Class<?> inside : PulsedAxes.class.getDeclaredClasses()) {
             for (Method method : inside.getDeclaredMethods()) {
                 hiddenNames.add(method.getName());
